@@ -75,7 +75,7 @@ public final class RingSteer {
             return items;
         }
         line.copy(draft);
-        search.ahead = 0;
+        lineChanged();
         script.length = 0;
         deeds.size = 0;
         seen = 0;
@@ -126,7 +126,7 @@ public final class RingSteer {
         }
         deeds.add(Deeds.WISHED, place, line.wishX[place], line.wishY[place]);
         line.setWish(place, x, y);
-        search.ahead = 0;
+        lineChanged();
         return 1;
     }
 
@@ -140,7 +140,7 @@ public final class RingSteer {
         }
         deeds.add(Deeds.RULED, what, was, 0);
         line.setRule(what, v);
-        search.ahead = 0;
+        lineChanged();
         return was;
     }
 
@@ -149,7 +149,7 @@ public final class RingSteer {
             return STATE;
         }
         deeds.takeBack(line);
-        search.ahead = 0;
+        lineChanged();
         return deeds.size;
     }
 
@@ -263,10 +263,8 @@ public final class RingSteer {
         int upper = nearParts(slips, x, c);
         int lower = power(SLIP_PARTS, slips);
         int common = commonDivisor(lower, upper);
-        if (common <= 0) {
-            return NONE;
-        }
-        return (what == 0 ? upper : lower) / common;
+        int part = what == 0 ? upper : lower;
+        return common > 1 ? part / common : part;
     }
 
     // ---- images
@@ -288,7 +286,7 @@ public final class RingSteer {
             return STATE;
         }
         line.copy(images[image]);
-        search.ahead = 0;
+        lineChanged();
         deeds.size = 0;
         return line.rings;
     }
@@ -309,10 +307,15 @@ public final class RingSteer {
         }
     }
 
+    /** What was found ahead holds only for the line as it was. */
+    private void lineChanged() {
+        search.ahead = 0;
+    }
+
     private void buildKnown(int key) {
         deeds.add(Deeds.BUILT, 0, 0, 0);
         line.build(key);
-        search.ahead = 0;
+        lineChanged();
     }
 
     /** Whether the line would end at every place that was seen, if ring i had this key. */

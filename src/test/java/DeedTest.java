@@ -54,6 +54,10 @@ public final class DeedTest {
         Check.due("builds(1): y is 2 apart", 2, x.builds(1));
         // The aim of ring 2 is (3, 0); the slope would be (1, -1).
         Check.due("builds(6)", 2 + 1, x.builds(6));
+        // The aim of ring 2 is (0, 3) here; key 2 brings the slope (1, 3), key 6 (1, -1).
+        RingSteer up = Check.told("m1;w1 1;w1 4;k1;");
+        Check.due("builds(6): y is 4 apart", STATE, up.builds(6));
+        Check.due("builds(2)", 1 + 0, up.builds(2));
         RingSteer y = Check.told("t3;m6;");
         Check.due("6 of room", 6, y.builds(0));
         RingSteer z = Check.told("t3;m5;");

@@ -9,6 +9,7 @@ public final class ImageTest {
         twoImages();
         whatImagesDoNotKeep();
         imagesAreCopies();
+        twelveRings();
         counting();
         Check.end("ImageTest");
     }
@@ -96,6 +97,21 @@ public final class ImageTest {
         Check.due("count(2)", 1, x.count(2));
         Check.due("builds(2)", Check.told("w1 1;k1;").builds(2), x.builds(2));
         Check.due("undo()", 0, x.undo());
+    }
+
+    private static void twelveRings() {
+        RingSteer x = Check.told("b0;");
+        Check.build(x, 0, 4, 0, 4, 0, 4, 0, 4, 0, 4, 0, 2);
+        Check.due("keep(0)", 12, x.keep(0));
+        Check.due("cost of all", 2 * (2 + 4 + 6 + 8 + 10) + 12 + 16, x.count(6));
+        x.undo();
+        x.builds(6);
+        Check.due("back(0)", 12, x.back(0));
+        Check.due("ring(12, 0)", 2, x.ring(12, 0));
+        Check.due("ring(12, 4)", 2, x.ring(12, 4));
+        Check.due("worst(0)", 12, x.worst(0));
+        Check.due("worst(11)", 2, x.worst(11));
+        Check.due("worst(12)", RingSteer.NONE, x.worst(12));
     }
 
     private static void counting() {

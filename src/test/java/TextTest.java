@@ -14,6 +14,7 @@ public final class TextTest {
         textsThatEndEarly();
         readInOrder();
         readAnew();
+        readTwice();
         faultChangesNothing();
         Check.end("TextTest");
     }
@@ -90,6 +91,9 @@ public final class TextTest {
         fault("\tt1;", 0);
         fault("t1;;", 3);
         fault("t;", 1);
+        fault("b;", 1);
+        fault("j ;", 2);
+        fault("m;", 1);
         fault("tt1;", 1);
         fault("t-1;", 1);
         fault("t1 1;", 3);
@@ -213,6 +217,22 @@ public final class TextTest {
         Check.due("plan(2, -1)", Check.told("w5 6;").plan(2, -1), x.plan(2, -1));
         Check.due("tunnel() of nothing", 0, x.tunnel());
         Check.due("wish(1, 0) is as at first", 0, x.wish(1, 0));
+    }
+
+    /** Nothing of an earlier text, right or faulty, is left when the next one is read. */
+    private static void readTwice() {
+        RingSteer x = Check.told("w1-2;".repeat(17) + "t3;b2;j2;m9;k1;");
+        Check.due("wish(17, 1)", -2, x.wish(17, 1));
+        Check.tell(x, "t1;b1;j1;m1;w1 1;w2 2;k8;");
+        Check.due("tunnel() of a fault", -33, x.tunnel());
+        x.clear();
+        Check.tell(x, "t2;b0;j1;m8;k0;");
+        Check.due("tunnel() again", 5, x.tunnel());
+        Check.dueCounts(x, "read last", 1, 2, 0, 1, 8, x.count(5), 4, 0, 0, 0);
+        for (int place = 1; place <= 17; place++) {
+            Check.due("wish(" + place + ", 0)", 0, x.wish(place, 0));
+            Check.due("wish(" + place + ", 1)", 0, x.wish(place, 1));
+        }
     }
 
     private static void faultChangesNothing() {
