@@ -2,15 +2,21 @@
 final class Check {
     private static int compared = 0;
     private static int wrong = 0;
+    private static String sentence = "";
 
     private Check() {
+    }
+
+    /** The document's sentence that is looked at from here on: it is printed with what is not as due. */
+    static void of(String words) {
+        sentence = "\"" + words + "\": ";
     }
 
     static void due(String call, long want, long got) {
         compared++;
         if (got != want) {
             wrong++;
-            System.out.println(call + " answered " + got + ", due is " + want);
+            System.out.println(sentence + call + " answered " + got + ", due is " + want);
         }
     }
 
